@@ -5,25 +5,25 @@ final class Check {
     }
 
     private static int wrong = 0;
-    private static int made = 0;
+    private static int count = 0;
 
     private Check() {
     }
 
-    static void due(String call, long want, Call call1) {
-        told(call, Long.toString(want), outcome(call1));
+    static void due(String call, long want, Call made) {
+        told(call, Long.toString(want), outcome(made));
     }
 
     static void due(String call, boolean want, boolean got) {
         told(call, Boolean.toString(want), Boolean.toString(got));
     }
 
-    static void illegalArgument(String call, Call call1) {
-        told(call, "throws.IllegalArgumentException", outcome(call1));
+    static void illegalArgument(String call, Call made) {
+        told(call, "throws.IllegalArgumentException", outcome(made));
     }
 
-    static void illegalState(String call, Call call1) {
-        told(call, "throws.IllegalStateException", outcome(call1));
+    static void illegalState(String call, Call made) {
+        told(call, "throws.IllegalStateException", outcome(made));
     }
 
     /** What a call answered, or the exact class that it threw. */
@@ -36,7 +36,7 @@ final class Check {
     }
 
     static void told(String call, String want, String got) {
-        made++;
+        count++;
         if (!want.equals(got)) {
             wrong++;
             if (wrong <= 50) {
@@ -46,7 +46,7 @@ final class Check {
     }
 
     static void end() {
-        System.out.println(wrong == 0 ? made + " answers are as due" : wrong + " of " + made + " answers are not as due");
+        System.out.println(wrong == 0 ? count + " answers are as due" : wrong + " of " + count + " answers are not as due");
         if (wrong != 0) {
             System.exit(1);
         }

@@ -104,15 +104,15 @@ final class Model {
         return !inside(box, way.legBefore(t), t.minus(MOMENT).lowest());
     }
 
-    /** Each time, not before the latest hit's, at which the ray is in the plane of a face; null where there is none. */
+    /** Each time, not before the latest hit's, at which the ray is in the plane of a face. */
     private List<Time> timesOfPlanes(int box, Way way) {
         List<Time> times = new ArrayList<>();
         Leg leg = way.leg();
         for (int i = 0; i < 6; i++) {
             int d = leg.direction()[i % 3];
             if (d != 0) {
-                Time way1 = new Time(boxes.get(box)[i], 1).minus(leg.point()[i % 3]);
-                Time gone = new Time(d > 0 ? way1.above() : -way1.above(), way1.below() * Math.abs(d));
+                Time ahead = new Time(boxes.get(box)[i], 1).minus(leg.point()[i % 3]);
+                Time gone = new Time(d > 0 ? ahead.above() : -ahead.above(), ahead.below() * Math.abs(d));
                 Time t = leg.from().plus(gone.lowest()).lowest();
                 if (t.order(way.latestTime()) >= 0) {
                     times.add(t);

@@ -33,7 +33,7 @@ public final class ModelTest {
             box();
         }
         for (int i = first; i < 120; i++) {
-            call(i);
+            call();
         }
     }
 
@@ -56,7 +56,7 @@ public final class ModelTest {
         Check.told(name + call, Check.outcome(due), Check.outcome(got));
     }
 
-    private void call(int i) {
+    private void call() {
         switch (chance.nextInt(16)) {
             case 0 -> box();
             case 1 -> off();

@@ -67,6 +67,7 @@ public final class Promise05RayTest {
         LightRays x = new LightRays(9);
         x.box(-1, -1, -1, 1, 1, 1);
         Check.due("along a face", 0, () -> x.ray(-5, 1, 0, 1, 0, 0));
+        Check.due("along a low face", 0, () -> x.ray(-5, -1, 0, 1, 0, 0));
         Check.due("along an edge", 0, () -> x.ray(-5, 1, 1, 1, 0, 0));
         Check.due("touching an edge", 0, () -> x.ray(-3, -1, 0, 1, 1, 0));
         Check.due("touching a corner", 0, () -> x.ray(-1, 1, 3, 1, 0, -1));

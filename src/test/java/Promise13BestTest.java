@@ -27,6 +27,8 @@ public final class Promise13BestTest {
         Check.due("row", 2, () -> x.best(0, -8, 0, 5, 4, 2, 1));
         Check.due("column of 8", 7, () -> x.best(-29, -39, 3, 8, 8, 5, 0));
         Check.due("row of 8", 7, () -> x.best(-29, -39, 3, 8, 8, 5, 1));
+        Check.due("a brighter point one column behind the field", 0, () -> x.best(0, -8, 0, 3, 4, 2, 0));
+        Check.due("a brighter point one row behind the field", 0, () -> x.best(0, -8, 0, 5, 2, 2, 1));
         Check.due("above the roof all are alike", 0, () -> x.best(0, -8, 20, 5, 4, 2, 1));
     }
 
@@ -61,6 +63,8 @@ public final class Promise13BestTest {
         Check.illegalArgument("last column beyond", () -> x.best(-49, -50, -50, 2, 2, 100, 0));
         Check.illegalArgument("last row beyond", () -> x.best(-50, -49, -50, 2, 2, 100, 0));
         Check.illegalArgument("last row of 8 beyond", () -> x.best(0, -19, 0, 1, 8, 10, 0));
+        Check.illegalArgument("first column beyond, last one not", () -> x.best(-51, 0, 0, 2, 1, 5, 0));
+        Check.illegalArgument("first row beyond, last one not", () -> x.best(0, -51, 0, 1, 2, 5, 0));
         Check.due("one column may have any step", 0, () -> x.best(50, 50, 0, 1, 1, 100, 0));
         Check.due("columns and rows are not mixed", 0, () -> x.best(-50, 50, 0, 8, 1, 14, 0));
         Check.illegalArgument("rows beyond", () -> x.best(-50, 50, 0, 1, 8, 14, 0));
