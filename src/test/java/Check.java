@@ -1,4 +1,7 @@
-/** What the tests share: compares answers, tells those that are not as due, and ends with exit code 1 if there were any. */
+/**
+ * What the tests share: compares answers, tells those that are not as due, and ends with exit code 1 if there were any.
+ * A test names the document's sentence that it is about before it asks; a sentence without an answer is a fault too.
+ */
 final class Check {
     interface Call {
         long answer();
@@ -6,8 +9,18 @@ final class Check {
 
     private static int wrong = 0;
     private static int count = 0;
+    private static int sentences = 0;
+    private static int countBefore = 0;
+    private static String words = "";
 
     private Check() {
+    }
+
+    static void sentence(String next) {
+        demandAnswers();
+        words = next;
+        countBefore = count;
+        sentences++;
     }
 
     static void due(String call, long want, Call made) {
@@ -38,17 +51,29 @@ final class Check {
     static void told(String call, String want, String got) {
         count++;
         if (!want.equals(got)) {
-            wrong++;
-            if (wrong <= 50) {
-                System.out.println(call + " answered " + got + ", due is " + want);
-            }
+            fault(call + " answered " + got + ", due is " + want);
         }
     }
 
     static void end() {
-        System.out.println(wrong == 0 ? count + " answers are as due" : wrong + " of " + count + " answers are not as due");
+        demandAnswers();
+        String all = count + " answers" + (sentences == 0 ? "" : " to " + sentences + " sentences");
+        System.out.println(wrong == 0 ? all + " are as due" : wrong + " faults in " + all);
         if (wrong != 0) {
             System.exit(1);
+        }
+    }
+
+    private static void demandAnswers() {
+        if (!words.isEmpty() && count == countBefore) {
+            fault("nothing was asked");
+        }
+    }
+
+    private static void fault(String text) {
+        wrong++;
+        if (wrong <= 50) {
+            System.out.println((words.isEmpty() ? "" : "\"" + words + "\": ") + text);
         }
     }
 }

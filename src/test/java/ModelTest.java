@@ -20,7 +20,7 @@ public final class ModelTest {
     }
 
     public static void main(String[] args) {
-        int runs = args.length == 0 ? 2400 : Integer.parseInt(args[0]);
+        int runs = args.length == 0 ? 1600 : Integer.parseInt(args[0]);
         for (int seed = 0; seed < runs; seed++) {
             new ModelTest(seed).run();
         }
